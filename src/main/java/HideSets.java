@@ -5,7 +5,7 @@ import java.util.NoSuchElementException;
  * A preprocessor that scans again exactly. What each call of the face answers is told in the
  * document; the classes inside hold the FILES (Page, Source), the bytes and TOKENS (Text, Row),
  * the MACROS, the EXPANDING (Expander, Frame), E (Sums), a RUN (Runner) and the RUNS by all
- * SETTINGS (Study). Nothing is made after the constructor: every row is used again.
+ * SETTINGS (Study). All rows are made once, by constructors, and used again by every call.
  */
 public final class HideSets {
     public static final int NONE = -1;
@@ -1165,7 +1165,7 @@ public final class HideSets {
 
     /** A row that is being EXPANDED, and the replacing that is under way in it. */
     private static final class Frame {
-        /** One more than may come: which one is the last is known for more, too. */
+        /** More than may come, so that too many can be told. */
         static final int ROOM = REPLACED_TOKENS + 2;
 
         int next = NONE;
@@ -1181,10 +1181,8 @@ public final class HideSets {
         int given = 0;
         final int[] argumentFrom = new int[PARAMETERS];
         final int[] argumentTo = new int[PARAMETERS];
-        final int[] at = new int[ROOM];
-        final int[] look = new int[ROOM];
-        final int[] hide = new int[ROOM];
-        int size = 0;
+        /** What came so far in place of the NAME. */
+        final Row made = new Row(ROOM);
         /** Whether there is a TOKEN ahead to which one behind a ## could be pasted. */
         boolean isAhead = false;
         /** Whether the next TOKEN is to be pasted to it. */
@@ -1208,7 +1206,7 @@ public final class HideSets {
             hidden = hides;
             nameLook = name;
             after = goesOn;
-            size = 0;
+            made.size = 0;
             isAhead = false;
             isBad = false;
             pastes = 0;
@@ -1222,13 +1220,13 @@ public final class HideSets {
             itemLook = how;
         }
 
-        /** Adds a TOKEN; of too many the last one alone is kept, since no paste makes them fewer. */
+        /**
+         * Adds a TOKEN. If there are too many, it takes the place of the last one: no paste makes
+         * them fewer again, but one may need the last.
+         */
         void put(int where, int how, int hides) {
-            int slot = Math.min(size, ROOM - 1);
-            at[slot] = where;
-            look[slot] = isFirst ? Row.blankAs(how, itemLook) : how;
-            hide[slot] = hides;
-            size++;
+            made.size = Math.min(made.size, ROOM - 1);
+            made.add(where, isFirst ? Row.blankAs(how, itemLook) : how, hides);
             isFirst = false;
             isAhead = true;
         }
@@ -1426,29 +1424,30 @@ public final class HideSets {
 
         /** The last TOKEN ahead and this one are one, if that is a TOKEN. */
         private void paste(Frame frame, int at, int look, int hides) {
-            int slot = Math.min(frame.size, Frame.ROOM) - 1;
+            Row made = frame.made;
+            int slot = made.size - 1;
             frame.isPasting = false;
             frame.isFirst = false;
             if (slot < 0 || frame.isBad) {
                 return;
             }
-            int ahead = Row.lengthOf(frame.look[slot]);
+            int ahead = Row.lengthOf(made.look[slot]);
             int length = ahead + Row.lengthOf(look);
             int from = text.top;
             if (length > TOKEN_BYTES || from + length > text.bytes.length) {
                 frame.isBad = true;
                 return;
             }
-            System.arraycopy(text.bytes, frame.at[slot], text.bytes, from, ahead);
+            System.arraycopy(text.bytes, made.at[slot], text.bytes, from, ahead);
             System.arraycopy(text.bytes, at, text.bytes, from + ahead, length - ahead);
             if (text.endOf(from, from + length) != from + length) {
                 frame.isBad = true;
                 return;
             }
             text.top += length;
-            frame.at[slot] = from;
-            frame.look[slot] = frame.look[slot] & ~Row.SHAPE_BITS | Row.shape(text.kindAt(from), length);
-            frame.hide[slot] &= hides;
+            made.at[slot] = from;
+            made.look[slot] = made.look[slot] & ~Row.SHAPE_BITS | Row.shape(text.kindAt(from), length);
+            made.hide[slot] &= hides;
             frame.pastes++;
         }
 
@@ -1492,16 +1491,17 @@ public final class HideSets {
                 fault.meet(FAULT_PASTE, frame.nameLook);
                 return;
             }
-            if (frame.size > REPLACED_TOKENS || nodes.size + frame.size > ROW_TOKENS) {
+            Row made = frame.made;
+            if (made.size > REPLACED_TOKENS || nodes.size + made.size > ROW_TOKENS) {
                 fault.meet(FAULT_MANY, frame.nameLook);
                 return;
             }
             int next = frame.after;
-            for (int i = frame.size - 1; i >= 0; i--) {
-                int look = i == 0 ? Row.blankAs(frame.look[i], frame.nameLook) : frame.look[i];
+            for (int i = made.size - 1; i >= 0; i--) {
+                int look = i == 0 ? Row.blankAs(made.look[i], frame.nameLook) : made.look[i];
                 chain[nodes.size] = next;
                 next = nodes.size;
-                nodes.add(frame.at[i], look, frame.hide[i] | frame.hidden);
+                nodes.add(made.at[i], look, made.hide[i] | frame.hidden);
             }
             frame.next = next;
             frame.macro = NONE;
@@ -1567,7 +1567,7 @@ public final class HideSets {
             worths[i] = 0;
             if (kind == SIGN) {
                 codes[i] = text.signOf(at, look);
-            } else if (kind == NUMBER && text.byteAt(at) == '0' && text.byteAt(at + 1) == 'x') {
+            } else if (kind == NUMBER && to - at > 1 && text.byteAt(at) == '0' && text.byteAt(at + 1) == 'x') {
                 readHex(i, at + 2, to);
             } else if (kind == NUMBER) {
                 readDecimal(i, at, to);
@@ -1851,7 +1851,7 @@ public final class HideSets {
 
         /** RUNS the next LINE: whether the RUN goes on behind it. */
         boolean doLine() {
-            if (level < 0 || level >= LEVELS || fault.kind != 0) {
+            if (pages == null || level < 0 || level >= LEVELS || fault.kind != 0) {
                 return false;
             }
             int f = fileAt[level];
@@ -1942,9 +1942,9 @@ public final class HideSets {
             tally[SKIPPED]++;
             if (word == OPENS) {
                 openGroup(0, look);
-            } else if (word == ELSE) {
+            } else if (word == ELSE && groups > 0) {
                 groupState[groups - 1] |= HAD_ELSE;
-            } else if (word == ENDIF) {
+            } else if (word == ENDIF && groups > 0) {
                 groups--;
             }
         }
@@ -2084,7 +2084,7 @@ public final class HideSets {
         private void turn() {
             if (cut.size > 2) {
                 refuse(FAULT_DIRECTIVE, 2);
-            } else {
+            } else if (groups > 0) {
                 groupState[groups - 1] = OUTER | HAD_ELSE | TAKEN | (topHas(TAKEN) ? 0 : LIVE);
             }
         }
@@ -2092,7 +2092,7 @@ public final class HideSets {
         private void close() {
             if (cut.size > 2) {
                 refuse(FAULT_DIRECTIVE, 2);
-            } else {
+            } else if (groups > 0) {
                 groups--;
             }
         }
@@ -2120,6 +2120,9 @@ public final class HideSets {
         }
 
         private void enterFile(int k) {
+            if (level + 1 >= LEVELS) {
+                return;
+            }
             level++;
             fileAt[level] = k;
             lineAt[level] = 0;

@@ -1,149 +1,15 @@
-import java.nio.charset.StandardCharsets;
-import java.util.NoSuchElementException;
-
 /** Each promise of the document by its number: ordinary inputs, edges that it names, wrong inputs. */
-public final class PromisesTest {
-    private static final int THREW = Integer.MIN_VALUE;
-    private static int wrong = 0;
-    private static int checks = 0;
-
-    // ---- helpers
-
+public final class PromisesTest extends Probe {
     private static void due(int promise, String what, long got, long want) {
-        checks++;
-        if (got != want) {
-            wrong++;
-            System.out.println("promise " + promise + ": " + what + " answered " + got + ", due is " + want);
-        }
+        due("promise " + promise + ", " + what, got, want);
     }
 
     private static void due(int promise, String what, boolean got, boolean want) {
-        due(promise, what, got ? 1 : 0, want ? 1 : 0);
+        due("promise " + promise + ", " + what, got, want);
     }
 
     private static void due(int promise, String what, String got, String want) {
-        checks++;
-        if (!got.equals(want)) {
-            wrong++;
-            System.out.println("promise " + promise + ": " + what + " answered [" + got + "], due is [" + want + "]");
-        }
-    }
-
-    private static HideSets tell(HideSets x, String s) {
-        byte[] b = s.getBytes(StandardCharsets.ISO_8859_1);
-        x.end(0);
-        for (int i = 0; i < b.length; i += 20) {
-            int[] n = new int[5];
-            for (int k = 0; k < 20; k++) {
-                n[k / 4] = n[k / 4] << 8 | (i + k < b.length ? b[i + k] & 255 : 0);
-            }
-            x.feed(n[0], n[1], n[2], n[3], n[4]);
-        }
-        x.end(b.length);
-        return x;
-    }
-
-    private static int file(HideSets x, int k, String... lines) {
-        return tell(x, String.join("\n", lines)).file(k);
-    }
-
-    private static int switches(HideSets x, String s) {
-        return tell(x, s).switches();
-    }
-
-    private static HideSets with(String... lines) {
-        HideSets x = new HideSets();
-        file(x, 0, lines);
-        return x;
-    }
-
-    private static HideSets ran(String... lines) {
-        HideSets x = with(lines);
-        x.run(0);
-        return x;
-    }
-
-    private static int token(HideSets x, int k, int what) {
-        try {
-            return x.token(k, what);
-        } catch (NoSuchElementException e) {
-            return THREW;
-        }
-    }
-
-    private static int macro(HideSets x, int m, int what) {
-        try {
-            return x.macro(m, what);
-        } catch (NoSuchElementException e) {
-            return THREW;
-        }
-    }
-
-    /** The worth of an E, or "kind@place" of its FAULT. */
-    private static String worth(HideSets x, String e) {
-        try {
-            return "" + tell(x, e).value();
-        } catch (NoSuchElementException n) {
-            return x.fault(0) + "@" + x.fault(3);
-        }
-    }
-
-    private static String word(HideSets x, int k) {
-        StringBuilder b = new StringBuilder();
-        for (int i = 0; x.tokenAt(k, i) != HideSets.NONE; i++) {
-            b.append((char) x.tokenAt(k, i));
-        }
-        return b.toString();
-    }
-
-    /** All TOKENS, a blank ahead of those that have a BLANK, else a dot between two. */
-    private static String all(HideSets x) {
-        StringBuilder b = new StringBuilder();
-        for (int k = 0; token(x, k, 0) != THREW; k++) {
-            b.append(x.token(k, 6) == 1 ? " " : k > 0 ? "." : "").append(word(x, k));
-        }
-        return b.toString();
-    }
-
-    private static String hides(HideSets x) {
-        StringBuilder b = new StringBuilder();
-        for (int k = 0; token(x, k, 0) != THREW; k++) {
-            b.append(k > 0 ? " " : "").append(x.token(k, 5));
-        }
-        return b.toString();
-    }
-
-    private static String places(HideSets x) {
-        StringBuilder b = new StringBuilder();
-        for (int k = 0; token(x, k, 0) != THREW; k++) {
-            b.append(k > 0 ? " " : "").append(x.token(k, 4));
-        }
-        return b.toString();
-    }
-
-    private static String bad(HideSets x) {
-        return x.fault(0) + " " + x.fault(1) + " " + x.fault(2) + " " + x.fault(3);
-    }
-
-    /** The FAULT of a RUN of these LINES. */
-    private static String badOf(String... lines) {
-        return bad(ran(lines));
-    }
-
-    private static String times(String s, int n) {
-        StringBuilder b = new StringBuilder();
-        for (int i = 0; i < n; i++) {
-            b.append(s);
-        }
-        return b.toString();
-    }
-
-    private static String nows(HideSets x) {
-        StringBuilder b = new StringBuilder();
-        for (int i = 0; i < 10; i++) {
-            b.append(i > 0 ? " " : "").append(x.now(i));
-        }
-        return b.toString();
+        due("promise " + promise + ", " + what, got, want);
     }
 
     // ---- the promises
@@ -980,9 +846,6 @@ public final class PromisesTest {
         promise27();
         promise28();
         promise29();
-        System.out.println(checks + " checks of 29 promises, " + wrong + " wrong");
-        if (wrong != 0) {
-            System.exit(1);
-        }
+        close("29 promises");
     }
 }

@@ -561,8 +561,7 @@ public final class HideSets {
         private int wordOf(int l) {
             int to = start[l + 1] - 1;
             int hash = firstOf(l);
-            boolean isSign = hash < to && text[hash] == '#' && text[hash + 1] != '#';
-            if (!isSign) {
+            if (hash >= to || text[hash] != '#') {
                 return NO_WORD;
             }
             int from = skipBlanks(hash + 1, to);
@@ -1238,8 +1237,8 @@ public final class HideSets {
      * ARGUMENT can be EXPANDED by itself, in a Frame of its own, without a copy.
      */
     private static final class Expander {
-        /** Far above what 100 EXPANSIONS with 20 ARGUMENTS each can need. */
-        private static final int STEPS = 1000000000;
+        /** Far above what 100 EXPANSIONS can need, each with 20 ARGUMENTS of a row's TOKENS. */
+        private static final int STEPS = 10000000;
 
         private final Text text;
         private final Macros macros;
@@ -1967,10 +1966,8 @@ public final class HideSets {
 
         private boolean cutLine(int from, int bytes) {
             cut.size = 0;
-            int i = 0;
-            while (i < bytes) {
+            for (int i = 0; i < bytes; i++) {
                 if (text.byteAt(from + i) == BLANK) {
-                    i++;
                     continue;
                 }
                 int look = Row.origin(Row.fileOf(ending), Row.lineOf(ending), i);
@@ -1985,7 +1982,7 @@ public final class HideSets {
                     look |= Row.BLANK_BIT;
                 }
                 cut.add(from + i, look, 0);
-                i += length;
+                i += Math.max(length, 1) - 1;
             }
             return true;
         }

@@ -253,6 +253,7 @@ public final class CallEdgesTest extends Probe {
         refused("four", y -> switches(y, "a b c d"), -1, 0);
         refused("alike", y -> switches(y, "a a"), -1, 0);
         refused("alike, the third", y -> switches(y, "a b a"), -1, 0);
+        refused("alike, the last two", y -> switches(y, "a b b"), -1, 0);
         refused("defined", y -> switches(y, "defined"), -1, 0);
         refused("defined, the third", y -> switches(y, "a b defined"), -1, 0);
         refused("a number", y -> switches(y, "1"), -1, 0);
@@ -764,6 +765,38 @@ public final class CallEdgesTest extends Probe {
         file(x, 0, "#ifdef a", "#define d 1 1", "#else", "#define d 1/0", "#endif", "#if d");
         due("by kind alone", x.outcomes(0), 2);
 
+        file(x, 0, "#if 1/a+" + times("0+", 126) + "1/(1-a)");
+        due("by place, 256 bytes apart", x.outcomes(0), 2);
+        file(x, 0, "#define k(x,y) x##y #x", "#define j(x,y) k(x,y)", "j(a,1)");
+        due("of what is made", x.outcomes(0), 2);
+        file(x, 0, "#include 1", "#include 2", times("m ", 25));
+        file(x, 1, "#define m " + times(times("x", 30) + " ", 12));
+        file(x, 2, "");
+        due("300 tokens of 30 bytes, all alike", x.outcomes(0), 1);
+        file(x, 2, "#define n " + times(times("x", 30) + " ", 11) + "p");
+        file(x, 0, "#include 1", "#include 2", "#ifdef c", "#define p " + times("x", 29), "#else", "#define p " + times("x", 30), "#endif",
+                times("m ", 24) + "n");
+        due("300 tokens, unlike in the last byte", x.outcomes(0) * 10 + x.like(0, 7), 24);
+
+        sentence("by all SETTINGS: those of the SWITCHES that there are now");
+        file(x, 0, "a b c");
+        due("eight", x.outcomes(0), 8);
+        switches(x, "a");
+        due("two", x.outcomes(0), 2);
+        file(x, 0, "x");
+        due("one", x.outcomes(0) * 10 + x.depends(0), 10);
+        switches(x, "");
+        due("one alone", x.outcomes(0) * 10 + x.depends(0), 10);
+        switches(x, "a b c");
+        due("of file()", file(x, 0, "a b c", "c") * 10 + x.outcomes(0), 28);
+        due("of edit()", edit(x, 0, 0, "x") * 10 + x.outcomes(0), 22);
+        due("of drop()", x.drop(0, 1) * 10 + x.outcomes(0), 11);
+        x.image(0);
+        edit(x, 0, 0, "a");
+        due("of the file as it is", x.outcomes(0), 2);
+        x.restore(0);
+        due("of restore()", x.outcomes(0), 1);
+
         sentence("The least SETTING of an outcome like that of this one");
         file(x, 0, "#if a+b+c==1", "x", "#elif c", "y", "#endif");
         int[] want = {0, 1, 1, 0, 1, 5, 5, 5};
@@ -779,11 +812,11 @@ public final class CallEdgesTest extends Probe {
         due("none", x.depends(0), 0);
         file(x, 0, "#ifdef b", "\"", "#endif");
         due("by a fault", x.depends(0), 2);
-        due("not told", x.depends(2), -1);
+        due("not told", x.depends(3), -1);
         due("no such", x.depends(4), -1);
         due("-1", x.depends(-1), -1);
         due("the most", x.depends(MOST), -1);
-        due("outcomes of one not told", x.outcomes(2), -1);
+        due("outcomes of one not told", x.outcomes(3), -1);
         due("outcomes of no such", x.outcomes(4), -1);
         due("outcomes of -1", x.outcomes(-1), -1);
         due("outcomes of the least", x.outcomes(LEAST), -1);
@@ -842,6 +875,8 @@ public final class CallEdgesTest extends Probe {
         sentence("NONE: it is of no group, none comes, no such ones");
         file(x, 0, "#endif", "#else", "#elif", "a", "#if", "#else");
         due("of no group", nexts(x, 0), "-1 -1 -1 -1 5 -1");
+        file(x, 1, "#else", "#elif", "#endif");
+        due("of no group, at once", nexts(x, 1), "-1 -1 -1");
         due("one beyond", x.nextOf(0, 6), -1);
         due("-1", x.nextOf(0, -1), -1);
         due("the most", x.nextOf(0, MOST), -1);
@@ -1005,6 +1040,24 @@ public final class CallEdgesTest extends Probe {
         due("nor by edits", all(x) + x.count(1), "other.image1");
         due("outcomes by what is restored", x.outcomes(0), 1);
 
+        x = with(times("123456789\n", 39) + "abcdefghi");
+        file(x, 1, "", "", "#ifndef guarded", "#endif");
+        switches(x, "abc d");
+        x.set(3);
+        x.image(1);
+        file(x, 0, times("\n", 40));
+        file(x, 1, "#ifndef g", "#endif");
+        switches(x, "x yz");
+        x.restore(1);
+        x.run(0);
+        due("a full file", x.lines(0) + word(x, 39) + token(x, 39, 3), "40abcdefghi39");
+        due("names of switches", macroName(x, 0) + macroName(x, 1), "abcd");
+        x.guard(1);
+        due("a guard's name", guardName(x), "guarded");
+        file(x, 2, "#define guarded", "#include 1");
+        x.run(2);
+        due("a guard", x.now(4), 1);
+
         sentence("false: no such one, or nothing is kept there");
         refused("1, nothing kept", y -> y.restore(1) ? 1 : 0, 0, 4);
         refused("2", y -> y.restore(2) ? 1 : 0, 0, 4);
@@ -1056,6 +1109,64 @@ public final class CallEdgesTest extends Probe {
         }
     }
 
+    /** One that makes as many bytes as a RUN can: 100 EXPANSIONS with nine pastes of long NAMES. */
+    private static HideSets heavy() {
+        HideSets x = with("#define f(x,y) x" + times("##y", 9), times("#include 1\n", 6) + "#include 2", uses('A', 10));
+        file(x, 1, uses('a', 15));
+        file(x, 2, "#define g f(" + times("z", 20) + ",y)");
+        return x;
+    }
+
+    private static String uses(char first, int n) {
+        StringBuilder b = new StringBuilder();
+        for (int i = 0; i < n; i++) {
+            b.append("f(").append(times("" + (char) (first + i), 20)).append(",b) ");
+        }
+        return b.toString();
+    }
+
+    private static void rooms() {
+        sentence("tokens are pasted and lexed anew: there is room for all that can be made");
+        HideSets x = heavy();
+        String first = times("a", 20) + times("b", 9);
+        String last = times("J", 20) + times("b", 9);
+        for (int n = 0; n < 4; n++) {
+            due("run " + n, x.run(0), 100);
+        }
+        due("all expansions", x.now(6) * 1000 + x.now(7), 100900);
+        for (int n = 0; n < 4; n++) {
+            due("value " + n, worth(x, "g" + times("+g", 49)), "0");
+        }
+        due("the first stays", word(x, 0), first);
+        due("the last stays", word(x, 99), last);
+        for (int n = 0; n < 7; n++) {
+            due("expand " + n, expand(x, times("g ", 50)), 50);
+        }
+        due("the last of a tape", word(x, 49), times("z", 20) + times("y", 9));
+        worth(x, "g" + times("+g", 49));
+        due("it stays", word(x, 49), times("z", 20) + times("y", 9));
+        switches(x, "s t u");
+        due("outcomes", x.outcomes(0), 1);
+
+        sentence("(all that was told, the tape stay): neither tapes nor what is made overwrite what came before");
+        x = new HideSets();
+        file(x, 3, times("123456789 ", 40));
+        switches(x, "s t u");
+        x.run(3);
+        worth(x, times("1+", 219) + "1");
+        due("a value behind a run", each(x, 1), times("9 ", 39) + "9");
+        due("its last byte", word(x, 39) + word(x, 35), "123456789123456789");
+        expand(x, times("abcdefghi ", 44));
+        worth(x, times("1+", 219) + "1");
+        due("a value behind an expand", word(x, 0) + word(x, 43), "abcdefghiabcdefghi");
+        file(x, 0, "#define c(x,y) x##y #x");
+        x.run(0);
+        expand(x, "zz c(a,b) yy");
+        due("made beside told", all(x), "zz ab \"a\" yy");
+        worth(x, "c(1,2)");
+        due("made by a value beside it", all(x), "zz ab \"a\" yy");
+    }
+
     public static void main(String[] args) {
         newObject();
         feedAndEnd();
@@ -1075,6 +1186,7 @@ public final class CallEdgesTest extends Probe {
         editAndDrop();
         images();
         counts();
+        rooms();
         close("edges of the calls");
     }
 }

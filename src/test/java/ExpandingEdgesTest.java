@@ -205,6 +205,8 @@ public final class ExpandingEdgesTest extends Probe {
         due("of the body", allOf("#define a +b ## c + b ## c", "a"), "+.bc + bc");
         due("of the last of a row", allOf("#define f(x) +x##3", "f(1 2)"), "+.1 23");
         due("behind it the row goes on", allOf("#define f(x) +1## x", "f( 2 3+)"), "+.12 3.+");
+        due("behind it the blanks are those of the row", allOf("#define f(x) +1##x", "f(2 3)"), "+.12 3");
+        due("behind it no blank of the parameter", allOf("#define f(x) +1## x", "f(2+3)"), "+.12.+.3");
     }
 
     private static void origins() {
@@ -320,7 +322,7 @@ public final class ExpandingEdgesTest extends Probe {
         due("| and ^", worth("1|1^1") + worth("1^1|1"), "11");
         due("^ and &", worth("1^1&0") + worth("0&1^1"), "11");
         due("& and ==", worth("2&2==2") + worth("2==2&2"), "00");
-        due("== and <", worth("0==2<1") + worth("2<1==0"), "11");
+        due("== and <", worth("2==1<3") + worth("5==3<=9") + worth("5!=3>=9") + worth("5!=9>3"), "0011");
         due("< and <<", worth("1<1<<1") + worth("1<<1<1"), "10");
         due("<< and +", worth("1<<1+1") + worth("1+1<<1"), "44");
         due("+ and *", worth("2+3*4") + worth("3*4+2"), "1414");

@@ -39,6 +39,7 @@ public final class RunEdgesTest extends Probe {
         due("beside a sign", allOf("#if 0", "#if(1)", "#endif/", "#endif"), "");
         due("## is no #", allOf("#if 0", "##if", "##endif", "#endif"), "");
         due("a # in the middle is none", allOf("#if 0", "x #endif", "#endif"), "");
+        due("a name behind another byte is none", allOf("#if 0", "xendif", "+endif", "a endif", "#endif", "xif 1", "+else"), "xif 1.+.else");
         due("two # are none", allOf("#if 0", "# #endif", "#endif"), "");
         due("a string is none", allOf("#if 0", "#\"endif\"", "#endif"), "");
         due("blanks", allOf("#if 0", "  #  endif  "), "");
@@ -363,6 +364,23 @@ public final class RunEdgesTest extends Probe {
         due("lines ahead came out", all(x) + " " + x.now(1), "x 1");
     }
 
+    private static void nothingIsLeftOver() {
+        sentence("FAULTS, the first that is met: a FAULT in the midst of a replacing leaves nothing for the next call");
+        String[] lines = {"f(f(,))", "f(f(1)f(", "f(c(-,1))", "f(f(s(" + times("a", 30) + ")))", "c(f(,),f(,))", "f(1)c(-,f(1))"};
+        for (String line : lines) {
+            HideSets x = with("#define f(x) x f", "#define c(x,y) x##y", "#define s(x) #x", line);
+            due("run " + line, x.run(0), -2);
+            due("expand behind it", expand(x, "1 2") == 2 ? all(x) : "", "1 2");
+            due("run again", x.run(0), -2);
+            due("a paste behind it", expand(x, "c(a,b)s(q)f(1)") == 4 ? all(x) : bad(x), "ab.\"q\".1 f");
+            due("expand " + line, expand(x, line), -2);
+            due("value behind it", worth(x, "c(1,2)"), "12");
+            x.drop(0, 3);
+            due("run without it", x.run(0), 0);
+            due("no fault", bad(x), FINE);
+        }
+    }
+
     private static void includes() {
         sentence("11 include of no FILE told");
         due("not told", badOf("#include 1"), "11 0 0 9");
@@ -434,6 +452,7 @@ public final class RunEdgesTest extends Probe {
         faultsOfNames();
         limits();
         faultsOfGroups();
+        nothingIsLeftOver();
         includes();
         close("edges of a run");
     }

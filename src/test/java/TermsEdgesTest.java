@@ -203,6 +203,10 @@ public final class TermsEdgesTest extends Probe {
         due("a name", badOf("#include x"), "2 0 0 9");
         due("a name that is a macro", badOf("#define x 1", "#include x"), "2 0 1 9");
         due("nothing", badOf("#include"), "2 0 0 8");
+        x = with("#include 1", "#include");
+        file(x, 1, "");
+        x.run(0);
+        due("nothing behind one that had it", bad(x), "2 0 1 8");
         due("a string", badOf("#include \"1\""), "2 0 0 9");
 
         sentence("# ifdef NAME | # ifndef NAME");
@@ -232,6 +236,8 @@ public final class TermsEdgesTest extends Probe {
         due("a comma last", badOf("#define f(a,)"), "2 0 0 12");
         due("two commas", badOf("#define f(a,,b)"), "2 0 0 12");
         due("no comma", badOf("#define f(a b)"), "2 0 0 12");
+        due("no comma, at the end", badOf("#define f(a b"), "2 0 0 12");
+        due("a number at the end", badOf("#define f(a,b 5"), "2 0 0 14");
         due("a number", badOf("#define f(1)"), "2 0 0 10");
         due("a bracket", badOf("#define f((a))"), "2 0 0 10");
         due("open", badOf("#define f("), "2 0 0 10");
@@ -274,11 +280,13 @@ public final class TermsEdgesTest extends Probe {
         due("a 21st with # ahead of it", badOf("#define f(x) " + times("#x ", 10) + "#x"), "7 0 0 43");
         due("a fault ahead of the 21st", badOf("#define a ## " + times("b ", 21)), "2 0 0 10");
         due("a fault behind the 21st", badOf("#define a " + times("b ", 22) + "##"), "7 0 0 50");
+        due("then it is no macro", ran("#define a " + times("b ", 21)).now(0), 0);
 
         sentence("## is not its first or last one, nor behind another ##");
         due("first", badOf("#define a ## b"), "2 0 0 10");
         due("last", badOf("#define a b ##"), "2 0 0 12");
         due("alone", badOf("#define a ##"), "2 0 0 10");
+        due("then it is no macro", ran("#define a ##").now(0), 0);
         due("behind another", badOf("#define a b ## ## c"), "2 0 0 15");
         due("beside another", badOf("#define a b####c"), "2 0 0 13");
         due("first behind parameters", badOf("#define f(x)##x"), "2 0 0 12");
@@ -292,6 +300,7 @@ public final class TermsEdgesTest extends Probe {
         due("it is", allOf("#define f(x) #x", "f(a)"), "\"a\"");
         due("with a blank", allOf("#define f(x) # x", "f(a)"), "\"a\"");
         due("of another name", badOf("#define f(x) #y"), "2 0 0 13");
+        due("then it is no macro", ran("#define f(x) #y").now(0), 0);
         due("of a number", badOf("#define f(x) x #1"), "2 0 0 15");
         due("last", badOf("#define f(x) x #"), "2 0 0 15");
         due("of a #", badOf("#define f(x) # # x"), "2 0 0 13");

@@ -229,8 +229,25 @@ public final class ModelTest {
         }
     }
 
+    /** Bytes that hardly mean anything, now and then one that can't be. */
+    private static String noise(int most) {
+        StringBuilder b = new StringBuilder();
+        String often = "##  \"(),,fgab1x0\n\n#";
+        for (int n = below(most); n > 0; n--) {
+            b.append(below(4) > 0 ? often.charAt(below(often.length())) : (char) (32 + below(95)));
+            if (below(12) == 0) {
+                b.append(any("#define ", "\n#if ", "\n#endif\n", "\n#else\n", "defined ", "\n#include ", "#ifndef ", "\n#elif "));
+            }
+        }
+        return below(50) == 0 ? b.toString() + (char) below(256) : b.toString();
+    }
+
     private static String file() {
         List<String> lines = new ArrayList<>();
+        if (below(8) == 0) {
+            String s = noise(120);
+            return s.length() > 420 ? s.substring(0, 420) : s;
+        }
         int style = below(10);
         if (style < 2) {
             int n = below(9);
@@ -478,13 +495,14 @@ public final class ModelTest {
                 break;
             case 7:
             case 8:
-                tell(below(30) == 0 ? row(3) + any("\n", "\u00ff", "\u0007") : row(1 + below(6)));
+                tell(below(30) == 0 ? row(3) + any("\n", "\u00ff", "\u0007")
+                        : below(8) == 0 ? noise(30).replace("\n", " ") : row(1 + below(6)));
                 LOG.add("expand");
                 same("expand()", x.expand(), y.expand());
                 break;
             case 9:
             case 10:
-                String e = below(5) == 0 ? longSum() : sum(0);
+                String e = below(5) == 0 ? longSum() : below(8) == 0 ? noise(12).replace("\n", "+") : sum(0);
                 tell(e.length() > 440 ? "1" : e);
                 LOG.add("value");
                 sameValue();

@@ -1,5 +1,6 @@
 import java.nio.charset.StandardCharsets;
 import java.util.ArrayList;
+import java.util.Arrays;
 import java.util.List;
 import java.util.NoSuchElementException;
 import java.util.Random;
@@ -360,6 +361,88 @@ public final class ModelTest {
         }
     }
 
+    // ---- MACROS that name one another, with as many ARGUMENTS as they have PARAMETERS
+
+    private static final String[] WOVEN = {"a", "b", "c", "d", "ab", "abc", "aa", "cd"};
+    /** How many PARAMETERS each has; -1: it is without. */
+    private static final int[] TAKES = new int[WOVEN.length];
+
+    private static String wovenCall(int deep, String... names) {
+        int m = below(WOVEN.length);
+        if (TAKES[m] < 0 || below(8) == 0) {
+            return WOVEN[m];
+        }
+        StringBuilder b = new StringBuilder(WOVEN[m]).append(any("", "", " ")).append('(');
+        for (int i = 0; i < TAKES[m]; i++) {
+            b.append(i > 0 ? "," : "").append(wovenRow(deep + 1, below(4), names));
+        }
+        return b.append(')').toString();
+    }
+
+    private static String wovenRow(int deep, int n, String... names) {
+        StringBuilder b = new StringBuilder();
+        for (int i = 0; i < n; i++) {
+            int kind = below(20);
+            b.append(any(" ", " ", "")).append(names.length > 0 && kind < 8 ? any(names)
+                : deep < 4 && kind < 14 ? wovenCall(deep, names) : kind < 17 ? any(WOVEN) : any("1", "+", "<", "(1)", "q", "-", "\"s\""));
+        }
+        return b.toString();
+    }
+
+    private static String wovenBody(String... names) {
+        StringBuilder b = new StringBuilder();
+        for (int n = 1 + below(4); n > 0; n--) {
+            int kind = below(10);
+            if (kind < 3) {
+                b.append(' ').append(wovenOperand(names));
+                for (int i = below(3); i >= 0; i--) {
+                    b.append(any("##", " ## ", " ##")).append(wovenOperand(names));
+                }
+                b.append(' ');
+            } else if (kind == 3 && names.length > 0) {
+                b.append(any("", " ")).append('#').append(any(names));
+            } else {
+                b.append(' ').append(wovenRow(2, 1, names));
+            }
+        }
+        return b.toString();
+    }
+
+    private static String wovenOperand(String... names) {
+        return names.length > 0 && below(10) < 7 ? any(names) : below(4) == 0 ? any("1", "q", "<") : any(WOVEN);
+    }
+
+    private static String wovenFile() {
+        String[] all = {"x", "y", "z"};
+        StringBuilder b = new StringBuilder();
+        for (int m = 0; m < WOVEN.length; m++) {
+            TAKES[m] = Math.min(below(6) - 1, 2 + below(2));
+        }
+        for (int m = 0; m < WOVEN.length; m++) {
+            String[] names = Arrays.copyOf(all, Math.max(TAKES[m], 0));
+            String line = "#define " + WOVEN[m] + (TAKES[m] < 0 ? " " : "(" + String.join(",", names) + ")") + wovenBody(names) + "\n";
+            b.append(b.length() + line.length() <= 360 ? line : "");
+        }
+        String line = wovenRow(0, 2);
+        return b.append(b.length() + line.length() <= 400 ? line : "").toString();
+    }
+
+    private static void tryWoven() {
+        tell(wovenFile());
+        LOG.add("file 0");
+        same("file", x.file(0), y.file(0));
+        LOG.add("run 0");
+        same("run", x.run(0), y.run(0));
+        compare(false);
+        for (int n = 0; n < 12 && wrong == 0; n++) {
+            String row = wovenRow(0, 1 + below(3));
+            tell(row.length() > 440 ? "a" : row);
+            LOG.add("expand");
+            same("expand()", x.expand(), y.expand());
+            compare(false);
+        }
+    }
+
     // ---- what is asked
 
     private static void sameToken(int k, int what) {
@@ -529,26 +612,39 @@ public final class ModelTest {
         }
     }
 
+    private static void begin() {
+        x = new HideSets();
+        y = new Model();
+        LOG.clear();
+    }
+
+    private static void tryMixed(int[] kinds) {
+        begin();
+        for (int k = 0; k < 4; k++) {
+            tell(file());
+            LOG.add("file " + k);
+            same("file", x.file(k), y.file(k));
+        }
+        tell(any("s", "s t", "s t u", ""));
+        LOG.add("switches");
+        same("switches", x.switches(), y.switches());
+        for (int n = 0; n < 25 && wrong == 0; n++) {
+            doCall();
+            compare(n % 8 == 0);
+            kinds[x.fault(0)]++;
+        }
+    }
+
     public static void main(String[] args) {
         int objects = args.length > 0 ? Integer.parseInt(args[0]) : 250;
         long first = args.length > 1 ? Long.parseLong(args[1]) : 1;
         int[] kinds = new int[12];
         for (seed = first; seed < first + objects && wrong == 0; seed++) {
             random = new Random(seed);
-            x = new HideSets();
-            y = new Model();
-            LOG.clear();
-            for (int k = 0; k < 4; k++) {
-                tell(file());
-                LOG.add("file " + k);
-                same("file", x.file(k), y.file(k));
-            }
-            tell(any("s", "s t", "s t u", ""));
-            LOG.add("switches");
-            same("switches", x.switches(), y.switches());
-            for (int n = 0; n < 25 && wrong == 0; n++) {
-                doCall();
-                compare(n % 8 == 0);
+            tryMixed(kinds);
+            if (wrong == 0) {
+                begin();
+                tryWoven();
                 kinds[x.fault(0)]++;
             }
         }
